@@ -1,0 +1,31 @@
+/** Counts and prints the answers that are not as due; every test ends with end(). */
+final class Check {
+    private static int asked = 0;
+    private static int wrong = 0;
+
+    private Check() {
+    }
+
+    static void due(String what, long got, long want) {
+        asked++;
+        if (got != want) {
+            wrong++;
+            System.out.println(what + " answered " + got + ", due is " + want);
+        }
+    }
+
+    static void due(String what, boolean got, boolean want) {
+        due(what, got ? 1 : 0, want ? 1 : 0);
+    }
+
+    static int wrong() {
+        return wrong;
+    }
+
+    static void end(String test) {
+        System.out.println(test + ": " + asked + " answers, " + wrong + " not as due");
+        if (wrong != 0 || asked == 0) {
+            System.exit(1);
+        }
+    }
+}
