@@ -1,5 +1,6 @@
 import java.math.BigInteger;
 import java.util.ArrayList;
+import java.util.Arrays;
 import java.util.List;
 
 /**
@@ -62,6 +63,7 @@ final class Model {
 
     private final List<Rule> rules = new ArrayList<>();
     private final Row[] turnings = new Row[49];
+    private int[][] faceCosts = null;
     private final List<List<Part>> classes = new ArrayList<>();
     private final List<List<Part>> faces = new ArrayList<>();
     private final List<String> aliases = new ArrayList<>();
@@ -90,6 +92,7 @@ final class Model {
     // ---- rules
 
     int rule(int from, int to, int cost, int numbers) {
+        forget();
         if (noSort(from) || noSort(to) || from == to || cost < 1 || cost > 50) {
             return OUTSIDE;
         }
@@ -101,16 +104,15 @@ final class Model {
         }
         rules.add(new Rule(from, to, cost, BigInteger.valueOf(numbers / 10000 - 1000),
             BigInteger.valueOf(numbers % 10000 - 1000)));
-        java.util.Arrays.fill(turnings, null);
         return rules.size() - 1;
     }
 
     int drop(int rule) {
+        forget();
         if (rule < 12 || rule >= rules.size() || rules.get(rule) == null) {
             return EMPTY;
         }
         rules.set(rule, null);
-        java.util.Arrays.fill(turnings, null);
         return 1;
     }
 
@@ -142,6 +144,7 @@ final class Model {
     // ---- shapes
 
     int ask(int face, int name, int sorts) {
+        forget();
         return outside(face) ? OUTSIDE : newPart(faces.get(face), name, sorts);
     }
 
@@ -183,6 +186,7 @@ final class Model {
     }
 
     int strip(boolean face, int shape) {
+        forget();
         if (outside(shape)) {
             return OUTSIDE;
         }
@@ -193,6 +197,7 @@ final class Model {
     }
 
     boolean alias(int name, int other, boolean on) {
+        forget();
         if (name < 0 || name > 99 || other < 0 || other > 99 || name == other) {
             return false;
         }
@@ -204,6 +209,7 @@ final class Model {
     }
 
     int constant(int sort, boolean is, long v) {
+        forget();
         if (noSort(sort) || is && !isOf(sort, BigInteger.valueOf(v))) {
             return OUTSIDE;
         }
@@ -350,6 +356,12 @@ final class Model {
 
     // ---- how it is found
 
+    /** Whatever may be told is told now: nothing that was found before is kept. */
+    private void forget() {
+        Arrays.fill(turnings, null);
+        faceCosts = null;
+    }
+
     private static boolean noSort(int sort) {
         return sort < 0 || sort > 6;
     }
@@ -434,11 +446,13 @@ final class Model {
     }
 
     private Row theWay(int from, int to) {
-        int[][] costs = new int[10][10];
-        for (int i = 0; i < 100; i++) {
-            costs[i / 10][i % 10] = fits(i % 10, 10 + i / 10);
+        if (faceCosts == null) {
+            faceCosts = new int[10][10];
+            for (int i = 0; i < 100; i++) {
+                faceCosts[i / 10][i % 10] = fits(i % 10, 10 + i / 10);
+            }
         }
-        return bestWay(costs, from, to, new boolean[10], new Row(0, List.of(from)), null);
+        return bestWay(faceCosts, from, to, new boolean[10], new Row(0, List.of(from)), null);
     }
 
     private static Row bestWay(int[][] costs, int at, int to, boolean[] been, Row soFar, Row best) {

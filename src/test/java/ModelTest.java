@@ -15,13 +15,16 @@ public final class ModelTest {
     private final int[] odds;
     private final int shapes;
     private final int names;
+    private final boolean chained;
     private String lastCall = "";
 
     private ModelTest(int seed) {
         random = new Random(seed);
         run = "run " + seed + " ";
-        shapes = 1 + random.nextInt(10);
-        names = 1 + random.nextInt(5);
+        // Only aliases that do not reach through make WAYS of many FACES: a NAME for each FACE.
+        chained = seed % 3 == 0;
+        shapes = chained ? 4 + random.nextInt(7) : 1 + random.nextInt(10);
+        names = chained ? shapes : 1 + random.nextInt(5);
         odds = new int[24];
         for (int i = 0; i < odds.length; i++) {
             odds[i] = 1 + random.nextInt(8);
@@ -29,6 +32,12 @@ public final class ModelTest {
         // Wide runs of strip and drop leave nothing to look at.
         odds[1] = random.nextInt(2);
         odds[8] = random.nextInt(2);
+        if (chained) {
+            odds[4] = 1;
+            odds[9] = 6;
+            odds[15] = 8;
+            odds[20] = 12;
+        }
     }
 
     public static void main(String[] args) {
@@ -44,15 +53,46 @@ public final class ModelTest {
         for (int i = 0; i < CALLS && Check.wrong() == before; i++) {
             step(i);
         }
+        if (Check.wrong() == before) {
+            sweep();
+        }
+    }
+
+    /** What the run left, looked at from all sides. */
+    private void sweep() {
+        for (int i = 0; i < 7 * 7 * 9; i++) {
+            int a = i / 63, b = i / 9 % 7, c = i % 9;
+            Check.due(run + "turning " + a + " " + b + " " + c, bench.turning(a, b, c), model.turning(a, b, c));
+        }
+        for (int i = 0; i < 10 * 20; i++) {
+            int a = i / 20, b = i % 20;
+            Check.due(run + "fits " + a + " " + b, bench.fits(a, b), model.fits(a, b));
+            Check.due(run + "gap " + a + " " + b, bench.gap(a, b), model.gap(a, b));
+            for (int c = 0; c < 36; c++) {
+                Check.due(run + "fit " + a + " " + c + " " + b, bench.fit(a, c / 6, b, c % 6), model.fit(a, c / 6, b, c % 6));
+            }
+        }
+        for (int i = 0; i < 10 * 10 * 4; i++) {
+            int a = i / 40, b = i / 4 % 10, c = i % 4 * 2 + random.nextInt(2);
+            Check.due(run + "way " + a + " " + b + " " + c, bench.way(a, b, c), model.way(a, b, c));
+        }
+        for (int i = 0; i < 20 * 3; i++) {
+            Check.due(run + "field " + i, bench.field(i / 3, i % 3), model.field(i / 3, i % 3));
+        }
     }
 
     private void step(int i) {
-        int kind = i < 40 ? 4 + random.nextInt(2) : picked();
-        long[] both = random.nextInt(2) == 0 ? told(kind) : null;
-        if (both == null) {
-            both = kind < 12 ? told(kind) : asked(kind);
-        }
+        int kind = i < 40 ? opening() : picked();
+        long[] both = kind < 12 ? told(kind) : asked(kind);
         Check.due(run + "call " + i + " " + lastCall, both[0], both[1]);
+        Check.due(run + "value behind call " + i + " " + lastCall, bench.value(), model.value());
+        Check.due(run + "failed(0) behind call " + i + " " + lastCall, bench.failed(0), model.failed(0));
+        Check.due(run + "failed(1) behind call " + i + " " + lastCall, bench.failed(1), model.failed(1));
+    }
+
+    private int opening() {
+        int[] kinds = {4, 5, 4, 5, 11, chained ? 9 : 4, chained ? 9 : 5};
+        return kinds[random.nextInt(kinds.length)];
     }
 
     private int picked() {
@@ -93,7 +133,7 @@ public final class ModelTest {
                 return pair(bench.turn(a, b, v), model.turn(a, b, v));
             }
             case 4: {
-                int a = shape(), b = name(), c = sorts();
+                int a = shape(), b = chained && random.nextInt(8) > 0 ? Math.floorMod(a, names) : name(), c = sorts();
                 say("ask", a, b, c);
                 return pair(bench.ask(a, b, c), model.ask(a, b, c));
             }
@@ -133,13 +173,11 @@ public final class ModelTest {
                 say(b ? "constant is" : "constant not", a, v);
                 return pair(bench.constant(a, b, v), model.constant(a, b, v));
             }
-            case 11: {
+            default: {
                 int a = shape();
                 say("object", a);
                 return pair(bench.object(a), model.object(a));
             }
-            default:
-                return null;
         }
     }
 
@@ -276,7 +314,8 @@ public final class ModelTest {
             case 0: return random.nextLong();
             case 1: return EDGES[random.nextInt(EDGES.length)];
             case 2: return random.nextInt(300) - 150;
-            default: return random.nextInt(20) - 5;
+            case 3: return random.nextInt(20) - 5;
+            default: return random.nextInt(3);
         }
     }
 }
