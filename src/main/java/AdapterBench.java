@@ -424,14 +424,14 @@ public final class AdapterBench {
     }
 
     /** Whether v * by + more is of 64 bits, for factors and addends of at most WIDEST. */
-    private static boolean isExact(long v, int by, int more) {
+    private static boolean staysIn64(long v, int by, int more) {
         // Split at bit 20, so that neither part can leave 64 bits when it is multiplied.
         long low = (v & 0xFFFFF) * by + more;
         long high = (v >> 20) * by + (low >> 20);
         return high >= -(1L << 43) && high < 1L << 43;
     }
 
-    private static boolean isSumExact(long a, long b) {
+    private static boolean sumStaysIn64(long a, long b) {
         long sum = a + b;
         return ((a ^ sum) & (b ^ sum)) >= 0;
     }
@@ -532,7 +532,7 @@ public final class AdapterBench {
                 made = v == 0 ? 0 : 1;
             } else if (rule == TO_WHOLE) {
                 made = v / 10;
-            } else if (isExact(v, by[rule], more[rule])) {
+            } else if (staysIn64(v, by[rule], more[rule])) {
                 made = v * by[rule] + more[rule];
             } else {
                 return false;
@@ -1056,7 +1056,7 @@ public final class AdapterBench {
         private boolean addUp(Member c) {
             result = c.number;
             for (int i = 0; i < c.arity; i++) {
-                if (!isExact(arguments[i], c.factors[i], 0) || !addTo(arguments[i] * c.factors[i])) {
+                if (!staysIn64(arguments[i], c.factors[i], 0) || !addTo(arguments[i] * c.factors[i])) {
                     return false;
                 }
             }
@@ -1068,9 +1068,9 @@ public final class AdapterBench {
         }
 
         private boolean addTo(long more) {
-            boolean exact = isSumExact(result, more);
+            boolean stays = sumStaysIn64(result, more);
             result += more;
-            return exact;
+            return stays;
         }
 
         private boolean writeField(Member c, long[] fields, int at) {
