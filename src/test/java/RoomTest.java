@@ -13,6 +13,9 @@ public final class RoomTest {
     private static final int MOST_OBJECTS = 600;
     private static final int MOST_ELEMENTS = 6000;
 
+    private static final com.sun.management.ThreadMXBean METER =
+        (com.sun.management.ThreadMXBean) ManagementFactory.getThreadMXBean();
+
     private static long seen = 0;
 
     private RoomTest() {
@@ -21,23 +24,23 @@ public final class RoomTest {
     public static void main(String[] args) throws ReflectiveOperationException {
         AdapterBench bench = new AdapterBench();
         dueSize("new", bench);
-        // What the machine itself makes at the first use of a call is none of ours.
-        for (int i = 0; i < 3; i++) {
-            useAll(new AdapterBench());
+        long least = Long.MAX_VALUE;
+        for (int i = 0; i < 10; i++) {
+            least = Math.min(least, bytesMadeBy(new AdapterBench()));
         }
-        com.sun.management.ThreadMXBean meter =
-            (com.sun.management.ThreadMXBean) ManagementFactory.getThreadMXBean();
-        long thread = Thread.currentThread().getId();
-        meter.getThreadAllocatedBytes(thread);
-        long idle = meter.getThreadAllocatedBytes(thread);
-        idle = meter.getThreadAllocatedBytes(thread) - idle;
-        long before = meter.getThreadAllocatedBytes(thread);
+        Check.due("bytes made by the calls of a run", least, 0);
         useAll(bench);
-        long made = meter.getThreadAllocatedBytes(thread) - before - idle;
-        Check.due("bytes made by 512 calls", made, 0);
         dueSize("used", bench);
         Check.due("something was seen", seen != 0, true);
         Check.end("RoomTest");
+    }
+
+    /** Of many runs the least counts: what the machine makes at the first use of a call is none of ours. */
+    private static long bytesMadeBy(AdapterBench bench) {
+        long thread = Thread.currentThread().getId();
+        long before = METER.getThreadAllocatedBytes(thread);
+        useAll(bench);
+        return METER.getThreadAllocatedBytes(thread) - before;
     }
 
     private static void useAll(AdapterBench x) {
