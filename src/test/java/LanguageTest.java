@@ -26,8 +26,8 @@ public final class LanguageTest {
     private static final String[] CONSTANTS = {"NONE", "EMPTY", "OUTSIDE", "FULL", "GAP", "FAILS"};
     private static final String[] BANNED = {"\\bthrow\\b", "\\bthrows\\b", "\\btry\\b", "\\bcatch\\b",
         "\\bsynchronized\\b", "\\bassert\\b", "->", "::", "\\bprotected\\b", "\\w*Exact\\b", "\\bSystem\\.(?!arraycopy)",
-        "\\bObject\\b", "\\bhashCode\\b", "\\btoString\\b", "\\bRandom\\b", "\\bThread\\b", "\\bdouble\\b", "\\bfloat\\b",
-        "\\bstatic\\s*\\{", "\\bnew\\s+\\w+\\s*\\([^()]*\\)\\s*\\{", "\\bpackage\\b", "\\bwhile\\b"};
+        "\\bObject\\b", "\\bhashCode\\b", "\\btoString\\b", "\\bRandom\\b", "\\bThread\\b",
+        "\\bstatic\\s*\\{", "\\bnew\\s+\\w+\\s*\\([^()]*\\)\\s*\\{", "\\bpackage\\b"};
 
     private LanguageTest() {
     }

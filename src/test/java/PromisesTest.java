@@ -1,11 +1,5 @@
 /** For each promise of the document what it says, at its edges, and with wrong numbers; worked out by hand. */
-public final class PromisesTest {
-    private static final int NONE = -1, EMPTY = -2, OUTSIDE = -3, FULL = -5, GAP = -6, FAILS = -7;
-    private static final int BYTE = 0, SHORT = 1, INT = 2, LONG = 3, TRUTH = 4, TENTHS = 5, SIGN = 6;
-    private static final int FORMULA = 0, READ = 1, WRITE = 2;
-    private static final int LEAST = Integer.MIN_VALUE, MOST = Integer.MAX_VALUE;
-    private static final long LONGEST = Long.MAX_VALUE, LOWEST = Long.MIN_VALUE;
-
+public final class PromisesTest extends Dues {
     private PromisesTest() {
     }
 
@@ -49,75 +43,6 @@ public final class PromisesTest {
         count();
         toldAtOnce();
         Check.end("PromisesTest");
-    }
-
-    private static void due(String what, long got, long want) {
-        Check.due(what, got, want);
-    }
-
-    /** The sorts of a MEMBER as ask() and offer() are told them. */
-    private static int sorts(int result, int... arguments) {
-        int all = result;
-        for (int i = 0; i < arguments.length; i++) {
-            all += (arguments[i] + 1) << 3 * (i + 1);
-        }
-        return all;
-    }
-
-    private static int numbers(int times, int plus) {
-        return 10000 * (times + 1000) + plus + 1000;
-    }
-
-    private static void dueTurning(String what, AdapterBench x, int from, int to, int cost, int... rules) {
-        due(what + ": cost", x.turning(from, to, 0), cost);
-        due(what + ": rules", x.turning(from, to, 1), rules.length);
-        for (int i = 0; i < rules.length; i++) {
-            due(what + ": rule " + i, x.turning(from, to, 2 + i), rules[i]);
-        }
-        due(what + ": no rule more", x.turning(from, to, 2 + rules.length), NONE);
-    }
-
-    private static void dueTurn(AdapterBench x, int from, int to, long v, long want) {
-        String what = "turn " + from + " to " + to + " of " + v;
-        due(what, x.turn(from, to, v), 0);
-        due(what + ": value", x.value(), want);
-    }
-
-    private static void dueFailure(String what, AdapterBench x, int answer, int where, int rule) {
-        due(what, answer, FAILS);
-        due(what + ": where", x.failed(0), where);
-        due(what + ": rule", x.failed(1), rule);
-    }
-
-    private static void dueFit(String what, AdapterBench x, int shape, int cost, int member, int... places) {
-        due(what + ": cost", x.fit(0, 0, shape, 0), cost);
-        due(what + ": member", x.fit(0, 0, shape, 1), member);
-        for (int i = 0; i < 4; i++) {
-            due(what + ": place " + i, x.fit(0, 0, shape, 2 + i), i < places.length ? places[i] : NONE);
-        }
-    }
-
-    private static void dueWay(String what, AdapterBench x, int from, int to, int cost, int... faces) {
-        due(what + ": cost", x.way(from, to, 0), cost);
-        due(what + ": faces", x.way(from, to, 1), faces.length);
-        for (int i = 0; i < faces.length; i++) {
-            due(what + ": face " + i, x.way(from, to, 2 + i), faces[i]);
-        }
-        due(what + ": no face more", x.way(from, to, 2 + faces.length), NONE);
-    }
-
-    private static void dueResult(String what, AdapterBench x, int answer, long want) {
-        due(what, answer, 0);
-        due(what + ": value", x.value(), want);
-    }
-
-    /** A bench whose FACE 0 and CLASS 0 have one MEMBER each, with an OBJECT of that CLASS. */
-    private static AdapterBench bench(int asked, int offered) {
-        AdapterBench x = new AdapterBench();
-        due("ask", x.ask(0, 7, asked), 0);
-        due("offer", x.offer(0, 7, offered), 0);
-        due("object", x.object(0), 0);
-        return x;
     }
 
     // ---- promise 1
@@ -677,18 +602,6 @@ public final class PromisesTest {
     }
 
     // ---- promise 16
-
-    /** FACES 0 .. last, each with one MEMBER of its own NAME, each NAME met by the one before it. */
-    private static AdapterBench chain(int last) {
-        AdapterBench x = new AdapterBench();
-        for (int i = 0; i <= last; i++) {
-            due("ask", x.ask(i, i, sorts(LONG, LONG)), 0);
-        }
-        for (int i = 1; i <= last; i++) {
-            Check.due("alias", x.alias(i, i - 1, true), true);
-        }
-        return x;
-    }
 
     private static void way() {
         AdapterBench x = chain(9);
