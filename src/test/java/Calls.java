@@ -41,13 +41,15 @@ final class Calls {
         throw new IllegalArgumentException(name);
     }
 
-    /** All that a bench answers to some 300 calls; the last of them change it. */
+    /** All that a bench answers to some 300 calls; many of them change it. */
     static List<Long> look(Object bench) {
         List<Long> seen = new ArrayList<>();
         lookAtTold(bench, seen);
         lookAtFits(bench, seen);
         lookByCalling(bench, seen);
+        lookAtFields(bench, seen);
         lookByTelling(bench, seen);
+        lookAtConstants(bench, seen);
         return seen;
     }
 
@@ -61,6 +63,10 @@ final class Calls {
         for (int pair = 0; pair < 49; pair++) {
             seen.add(on(bench, "turning", pair / 7, pair % 7, 2));
         }
+        lookAtFields(bench, seen);
+    }
+
+    private static void lookAtFields(Object bench, List<Long> seen) {
         for (int i = 0; i < 12; i++) {
             seen.add(on(bench, "field", i < 9 ? i / 3 : 19, i % 3));
         }
@@ -99,11 +105,25 @@ final class Calls {
         }
         seen.add(on(bench, "rule", 0, 1, 1, 0));
         seen.add(on(bench, "object", 0));
-        for (int i = 0; i < 7; i++) {
-            seen.add(on(bench, "constant", i, 0, 0));
+        for (int rule = 32; rule >= 12; rule--) {
+            seen.add(on(bench, "drop", rule));
+            // The cost of a RULE that a refused call spoilt may show only when THE TURNING is found anew.
+            seen.add(on(bench, "turning", rule % 3 * 2, 3, 0));
         }
         for (int i = 0; i < 20; i++) {
             seen.add(on(bench, "strip", i / 10, i % 10));
+        }
+    }
+
+    /** By a MEMBER that gives nothing but the CONSTANT, on OBJECT 0, which is of CLASS 0. */
+    private static void lookAtConstants(Object bench, List<Long> seen) {
+        on(bench, "ask", 0, 50, 3);
+        for (int i = 0; i < 7; i++) {
+            on(bench, "offer", 0, 50, 3 + 8 * (i + 1));
+            seen.add(on(bench, "call", 0, 0, 0));
+            seen.add(on(bench, "value"));
+            seen.add(on(bench, "constant", i, 0, 0));
+            on(bench, "strip", 0, 0);
         }
     }
 }

@@ -20,6 +20,7 @@ public final class EdgesOfCallsTest extends Dues {
         writeStays();
         shapeByShape();
         toldAtOnce();
+        fiveHundredAndTwelve();
         objectOutside();
         objectIsFull();
         putEmpty();
@@ -328,6 +329,25 @@ public final class EdgesOfCallsTest extends Dues {
         due("alias off", x.call(0, 1, 0), GAP);
     }
 
+    private static void fiveHundredAndTwelve() {
+        Check.sentence("An object is used for at most 512 calls after it has been made");
+        AdapterBench x = bench(sorts(LONG, LONG), sorts(LONG, LONG));
+        due("work", x.work(0, 0, WRITE, 0, 0), 0);
+        for (int i = 0; i < 252; i++) {
+            due("hand", x.hand(0, i), 0);
+            due("call", x.call(0, 0, 0), 0);
+        }
+        due("value", x.value(), 250);
+        due("field", x.field(0, 0), 251);
+        due("failed", x.failed(0), NONE);
+        due("the 512th", x.count(6), 252);
+        AdapterBench y = new AdapterBench();
+        for (int i = 0; i < 511; i++) {
+            due("turn fails", y.turn(SHORT, SIGN, -1), FAILS);
+        }
+        due("the 512th", y.failed(1), 11);
+    }
+
     // ---- promise 17
 
     private static void objectOutside() {
@@ -595,6 +615,11 @@ public final class EdgesOfCallsTest extends Dues {
         due("from's are not asked for", x.through(0, 0, 2, 1), EMPTY);
         due("member 0", x.through(0, 0, 2, 0), 0);
         due("of its own", x.through(0, 0, 0, 1), GAP);
+        due("ask", x.ask(2, 2, sorts(LONG, LONG)), 1);
+        due("ask", x.ask(2, 2, sorts(TENTHS, LONG)), 2);
+        hold(x, 6);
+        dueResult("a MEMBER of to's that from has not", x, x.through(0, 0, 2, 2), 60);
+        due("the next is none", x.through(0, 0, 2, 3), EMPTY);
     }
 
     private static void throughGap() {

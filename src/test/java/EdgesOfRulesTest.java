@@ -21,6 +21,7 @@ public final class EdgesOfRulesTest extends Dues {
         firstInOrder();
         nothingButRules();
         noMembersAtFirst();
+        eachItsOwn();
         ruleSorts();
         ruleCost();
         ruleNumbers();
@@ -354,6 +355,30 @@ public final class EdgesOfRulesTest extends Dues {
             due("no member of face " + i, x.fit(i, 0, i, 0), EMPTY);
             due("no member of class " + i, x.work(i, 0, FORMULA, NONE, 0), EMPTY);
         }
+    }
+
+    private static void eachItsOwn() {
+        Check.sentence("A new object: Nothing but .. (whatever others were told)");
+        AdapterBench x = bench(sorts(LONG, LONG), sorts(LONG, LONG));
+        due("rule", x.rule(LONG, INT, 1, 0), 12);
+        due("alias", x.alias(1, 2, true), true);
+        due("constant", x.constant(LONG, true, 5), 0);
+        due("hand", x.hand(0, 8), 0);
+        due("put", x.put(0, 0, 9), 0);
+        due("call", x.call(0, 0, 0), 0);
+        due("turn", x.turn(BYTE, BYTE, 128), FAILS);
+        AdapterBench y = new AdapterBench();
+        for (int what = 0; what < 8; what++) {
+            due("count " + what, y.count(what), what == 0 ? 12 : 0);
+        }
+        due("value", y.value(), 0);
+        due("failed", y.failed(0), NONE);
+        dueTurning("built-in", y, LONG, INT, 5, 3);
+        due("object", y.object(0), 0);
+        due("field", y.field(0, 0), 0);
+        due("the older one's stays", x.field(0, 0), 9);
+        due("the older one's stays", x.value(), 8);
+        dueTurning("told", x, LONG, INT, 1, 12);
     }
 
     // ---- promise 2
