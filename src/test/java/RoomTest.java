@@ -44,7 +44,7 @@ public final class RoomTest {
     }
 
     private static void useAll(AdapterBench x) {
-        for (int i = 0; i < 120; i++) {
+        for (int i = 0; i < 54; i++) {
             seen += x.ask(i % 10, i % 3, 0_44433 - i % 5 * 0_1110);
             seen += x.offer(i % 10, i % 3, 0_44433);
         }
